@@ -1212,8 +1212,9 @@ public final class KindredBooks {
             }
         }
 
+        /** All numbers are cleared, as other books may make changes that this one does not know yet. */
         private void joinEntries() {
-            for (int i = 0; i < ledger.size; i++) {
+            for (int i = 0; i < MOST_CHANGES; i++) {
                 group[i] = book.isLive(i) ? i : NONE;
                 holding[i] = false;
             }
