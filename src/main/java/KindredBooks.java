@@ -10,6 +10,7 @@ public final class KindredBooks {
 
     private static final int BOOKS = 3;
     private static final int MOST_CHANGES = 250;
+    private static final int MOST_PAIRS = MOST_CHANGES * (MOST_CHANGES - 1) / 2;
     private static final int MOST_BYTES = 400;
     private static final int MOST_OF_LINE = 40;
     private static final int MOST_OF_CALL = 44;
@@ -1257,7 +1258,7 @@ public final class KindredBooks {
             Arrays.fill(starts, 0);
             for (int i = 0; i < ledger.size; i++) {
                 int owner = ownerOf(ledger.at(i));
-                if (owner != NONE) {
+                if (owner >= 0 && owner < MOST_CHANGES) {
                     starts[owner]++;
                 }
             }
@@ -1267,10 +1268,16 @@ public final class KindredBooks {
             for (int i = book.size - 1; i >= 0; i--) {
                 Change change = book.inOrder(i);
                 int owner = ownerOf(change);
-                if (owner != NONE && starts[owner] > 0) {
+                if (owner >= 0 && owner < MOST_CHANGES) {
                     starts[owner]--;
-                    lines[starts[owner]] = change.number;
+                    putLine(starts[owner], change.number);
                 }
+            }
+        }
+
+        private void putLine(int place, int line) {
+            if (place >= 0 && place < MOST_CHANGES) {
+                lines[place] = line;
             }
         }
 
@@ -1280,11 +1287,13 @@ public final class KindredBooks {
         }
 
         private void markShown(int number) {
+            int start = startOf(number);
             int end = endOf(number);
-            for (int i = startOf(number); i < end; i++) {
-                boolean isFirst = !hasValueBetween(startOf(number), i, lineAt(i));
+            for (int i = start; i < end; i++) {
+                Line line = lineAt(i);
+                boolean isFirst = !hasValueBetween(start, i, line);
                 isFirstOfValue[i] = isFirst;
-                isShown[i] = lineAt(i).isOneShown() ? !hasKindBetween(i + 1, end, lineAt(i).kind) : isFirst;
+                isShown[i] = line.isOneShown() ? !hasKindBetween(i + 1, end, line.kind) : isFirst;
             }
         }
 
@@ -1319,11 +1328,11 @@ public final class KindredBooks {
         }
 
         int startOf(int number) {
-            return number >= 0 && number < MOST_CHANGES ? starts[number] : 0;
+            return number >= 0 && number < MOST_CHANGES ? Math.max(starts[number], 0) : 0;
         }
 
         int endOf(int number) {
-            return number >= 0 && number < MOST_CHANGES ? starts[number + 1] : 0;
+            return number >= 0 && number < MOST_CHANGES ? Math.min(starts[number + 1], MOST_CHANGES) : 0;
         }
 
         Line lineAt(int place) {
@@ -1856,6 +1865,9 @@ public final class KindredBooks {
         }
 
         void add(long row) {
+            if (size >= MOST_PAIRS) {
+                return;
+            }
             if (size >= rows.length) {
                 rows = Arrays.copyOf(rows, size * 2 + 1);
             }

@@ -6,6 +6,7 @@ public final class PaperTest {
         errorsOfPapers();
         tooManyChanges();
         reading();
+        longPapers();
         knownCards();
         knownInOneBook();
         wrongCalls();
@@ -130,6 +131,31 @@ public final class PaperTest {
         CHECKS.same("the last note", Checks.form(books, 7, 0), "y");
         CHECKS.same("no cards", read(books, 1, ""), 0);
         CHECKS.same("stays", books.changes(), due.length);
+    }
+
+    /** Papers with as many lines and as many cards as 400 bytes have. */
+    private static void longPapers() {
+        StringBuilder lines = new StringBuilder();
+        StringBuilder cards = new StringBuilder();
+        for (int i = 0; i < 100; i++) {
+            lines.append("t:").append((char) ('A' + i % 26)).append(i < 99 ? ';' : '.');
+            cards.append("t:").append((char) ('A' + i % 26)).append('.');
+        }
+        KindredBooks books = new KindredBooks();
+        CHECKS.same("a card of 100 lines", read(books, 0, lines.toString()), 1);
+        CHECKS.same("an entry and 100 lines", books.changes(), 101);
+        CHECKS.same("the last one", Checks.form(books, 100, 0), "V");
+        CHECKS.same("the same one again", read(books, 0, lines.toString()), 0);
+        hasError(lines.substring(0, 399) + ";", 1, 400);
+        hasError(lines.substring(0, 396) + "t:a:", 1, 399);
+        hasError(lines.substring(0, 396) + "t:ab", 1, 400);
+        KindredBooks others = new KindredBooks();
+        CHECKS.same("100 cards", read(others, 0, cards.toString()), 26);
+        CHECKS.same("26 entries and lines", others.changes(), 52);
+        Checks.type(others, cards.toString());
+        CHECKS.same("252 changes, if no card was known", others.errorKind(), 3);
+        others.clearText();
+        CHECKS.same("250 changes, if no card was known", read(others, 0, cards.substring(4)), 0);
     }
 
     private static void knownCards() {
