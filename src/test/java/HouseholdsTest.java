@@ -91,6 +91,14 @@ public final class HouseholdsTest {
         comes(books, "2020-05-20", 365, may, 1, 21, june, 12, -30);
         books.gone(0, june);
         comes(books, "2020-05-20", 365, may, 1, 21);
+        comes(books, "1900-05-21", 364, may, 0, 1900 - 1999);
+        comes(books, "1900-05-22", 364, may, 364, 1901 - 1999);
+        comes(books, "1899-05-22", 363);
+        comes(books, "1900-02-20", 90, may, 90, 1900 - 1999);
+        comes(books, "2000-02-20", 90);
+        comes(books, "2000-02-20", 91, may, 91, 1);
+        comes(books, "1999-05-22", 365, may, 365, 1);
+        comes(books, "2000-05-22", 364, may, 364, 2);
         comes(books, "9998-05-22", 365, may, 364, 9999 - 1999);
         comes(books, "0001-05-21", 0, may, 0, 1 - 1999);
     }

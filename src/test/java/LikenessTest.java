@@ -7,6 +7,7 @@ public final class LikenessTest {
         ofWays();
         ofGroups();
         suggesting();
+        suggestingByAll();
         suggestingMany();
         suggestionsStay();
         looking();
@@ -41,6 +42,10 @@ public final class LikenessTest {
         // repeated pieces count once: " aa", "aaa", "aa " both
         isLike("aaaa", "aaaaaa", (4 * (1000 - 2000 / 6) + 2 * 1000 + 2 * 1000) / 10);
         // D: put in, take out, change
+        isLike("elisabeth", "Elizabeth", (4 * 889 + 2 * 666 + 2 * 1000) / 10);
+        isLike("abcdefg", "ahijklm", 4 * (1000 - 6000 / 7) / 10);
+        // forty pieces, of which three are common, and the greatest one is among these
+        isLike("zyxwvutsrqponmlkjihgfedcba9876543210zxvt", "zyx", (4 * (1000 - 1000 * 37 / 40) + 2 * (2000 * 2 / 43)) / 10);
         isLike("kitten", "sitting", (4 * (1000 - 3000 / 7) + 2 * (2000 * 1 / 13)) / 10);
     }
 
@@ -56,6 +61,12 @@ public final class LikenessTest {
         CHECKS.same("with empty CALL forms", books.likeness(0, left, right), 0);
         int way = Checks.line(books, 0, right, KindredBooks.WAY, "+493012");
         CHECKS.same("with like CALL forms", books.likeness(0, left, right), 200);
+        books.setCountry(1);
+        Checks.line(books, 0, left, KindredBooks.WAY, "0/0");
+        int plus = Checks.line(books, 0, right, KindredBooks.WAY, "00");
+        books.setCountry(1);
+        CHECKS.same("a + alone is a CALL form", books.likeness(0, left, right), 200);
+        books.back(0, plus);
         books.setCountry(1);
         CHECKS.same("in another country", books.likeness(0, left, right), 0);
         books.setCountry(49);
@@ -123,6 +134,23 @@ public final class LikenessTest {
         CHECKS.throwsA("the book first", Checks.INDEX, () -> books.suggest(3, 0));
         CHECKS.throwsA("a bar of 400", Checks.ARGUMENT, () -> books.suggest(0, 400));
         CHECKS.throwsA("a bar of 1001", Checks.ARGUMENT, () -> books.suggest(0, 1001));
+    }
+
+    /** Each of letters, pieces, sounds and ways is needed to come up to a bar. */
+    private static void suggestingByAll() {
+        KindredBooks books = new KindredBooks();
+        int a = Checks.named(books, 2, "elisabeth");
+        int b = Checks.named(books, 2, "Elizabeth");
+        CHECKS.same("at the bar by names", books.suggest(2, 688), 1);
+        CHECKS.same("above the bar by names", books.suggest(2, 689), 0);
+        Checks.line(books, 2, a, KindredBooks.WAY, "1");
+        Checks.line(books, 2, b, KindredBooks.WAY, "01");
+        CHECKS.same("at the bar by a way, too", books.suggest(2, 888), 1);
+        isSuggested(books, 0, a, b, 888);
+        CHECKS.same("above the bar by a way, too", books.suggest(2, 889), 0);
+        Checks.line(books, 2, a, KindredBooks.NAME, "ELIZABETH");
+        CHECKS.same("the greatest likeness that there is", books.suggest(2, 1000), 1);
+        isSuggested(books, 0, a, b, 1000);
     }
 
     private static void suggestingMany() {

@@ -16,6 +16,7 @@ public final class MakingTest {
         undoing();
         hearing();
         hearingThirds();
+        lastChanges();
         fullBooks();
         CHECKS.end();
     }
@@ -78,6 +79,16 @@ public final class MakingTest {
         CHECKS.same("CALL with 999", Checks.form(books, line, 2), "+999301");
         CHECKS.same("setCountry(10)", books.setCountry(10), 999);
         CHECKS.same("CALL with 10", Checks.form(books, line, 2), "+10301");
+        for (int book = 0; book < 3; book++) {
+            books.hear(book, 0);
+            Checks.line(books, book, 0, KindredBooks.WAY, "+10301");
+            CHECKS.same("like ways in each book", books.shown(book, 0, KindredBooks.WAY), 1);
+        }
+        books.setCountry(11);
+        for (int book = 0; book < 3; book++) {
+            CHECKS.same("other ways in each book", books.shown(book, 0, KindredBooks.WAY), 2);
+        }
+        books.setCountry(10);
         CHECKS.same("setCountry(100)", books.setCountry(100), 10);
         CHECKS.same("CALL with 100", Checks.form(books, line, 2), "+100301");
     }
@@ -304,6 +315,48 @@ public final class MakingTest {
         books.hear(0, 2);
         CHECKS.isTrue("counts again in the first", books.counts(0, entry));
         CHECKS.isFalse("not in the second", books.counts(1, entry));
+    }
+
+    /** The last change that there can be is one like the others. */
+    private static void lastChanges() {
+        for (int kind = KindredBooks.ENTRY; kind <= KindredBooks.BACK; kind++) {
+            KindredBooks books = new KindredBooks();
+            for (int i = 0; i < 249; i++) {
+                books.entry(0);
+            }
+            Checks.type(books, "x");
+            String call = "the last change, of kind " + kind;
+            CHECKS.same(call, makeLast(books, kind), 249);
+            CHECKS.isTrue(call + ", counts", books.counts(0, 249));
+            CHECKS.isTrue(call + ", stands", books.stands(0, 249));
+            CHECKS.same(call + ", holds", books.holds(0, 249) ? 1 : 0, kind == KindredBooks.JOIN ? 1 : 0);
+            CHECKS.same(call + ", heard", books.hear(1, 0), 250);
+            int[] groups = {250, 249, 248, 249, 249, 248, 248};
+            CHECKS.same(call + ", groups", books.groups(1), groups[kind]);
+            CHECKS.same(call + ", the last group", books.groupAt(1, groups[kind] - 1), kind == KindredBooks.ENTRY ? 249 : 248);
+            CHECKS.same(call + ", shown", books.shown(1, 0, KindredBooks.NOTE), kind == KindredBooks.LINE ? 1 : 0);
+            if (kind == KindredBooks.ENTRY) {
+                CHECKS.same("values of the last entry", books.values(0, 249, KindredBooks.NAME), 0);
+                CHECKS.same("group of the last entry", books.groupOf(0, 249), 249);
+                CHECKS.same("likeness of the last entry", books.likeness(0, 249, 0), 0);
+                CHECKS.same("path of the last entry", books.path(0, 249, 249, 0), 249);
+            }
+        }
+    }
+
+    private static int makeLast(KindredBooks books, int kind) {
+        switch (kind) {
+            case KindredBooks.ENTRY:
+                return books.entry(0);
+            case KindredBooks.LINE:
+                return books.line(0, 0, KindredBooks.NOTE);
+            case KindredBooks.GONE:
+                return books.gone(0, 1);
+            case KindredBooks.BACK:
+                return books.back(0, 1);
+            default:
+                return make(books, kind, 0, 2, 1);
+        }
     }
 
     /** With 250 changes each call that would make one throws, behind all else that it throws. */

@@ -9,6 +9,7 @@ public final class PaperTest {
         longPapers();
         knownCards();
         knownInOneBook();
+        behindKnownCards();
         wrongCalls();
         CHECKS.end();
     }
@@ -91,6 +92,10 @@ public final class PaperTest {
         CHECKS.same("251, if no card was known", books.errorKind(), 3);
         CHECKS.same("at the length", books.errorPlace(), 12);
         CHECKS.throwsA("readIn", Checks.STATE, () -> books.readIn(1));
+        books.clearText();
+        CHECKS.same("place of no error, asked for first", books.errorPlace(), -1);
+        Checks.type(books, "n:a;n:b.n:c.");
+        CHECKS.same("place of the error, asked for first", books.errorPlace(), 12);
         Checks.type(books, "x");
         CHECKS.same("an error of the text goes ahead", books.errorKind(), 1);
         CHECKS.same("its place", books.errorPlace(), 12);
@@ -179,6 +184,23 @@ public final class PaperTest {
         books.back(0, entry + 4);
         CHECKS.same("of a line that is taken back", read(books, 0, "n:Ann Lee;w:030 1;n:Bob;n:bob."), 1);
         CHECKS.same("of the lines that are left", read(books, 0, "n:Bob;n:Ann Lee;w:030 1."), 0);
+    }
+
+    /** What was read for a card that is known leaves nothing in the lines that are made then. */
+    private static void behindKnownCards() {
+        KindredBooks books = new KindredBooks();
+        read(books, 0, "n:Robert of York;w:0049 30 12;t:a note.");
+        CHECKS.same("the same one", read(books, 0, "n:Robert of York;w:0049 30 12;t:a note."), 0);
+        CHECKS.same("a shorter one", read(books, 0, "n:Zed;w:7;t:b."), 1);
+        String[][] due = {{"Zed", "zed", "zed", "z3"}, {"7", "7", "+497", ""}, {"b", "b", "b", "b"}};
+        for (int i = 0; i < due.length; i++) {
+            for (int form = 0; form < 4; form++) {
+                CHECKS.same("line " + i + " in form " + form, Checks.form(books, 5 + i, form), due[i][form]);
+            }
+        }
+        int other = Checks.named(books, 0, "Zek");
+        CHECKS.same("pieces of the shorter one", books.likeness(0, 4, other), (4 * 667 + 2 * (2000 / 6)) / 10);
+        CHECKS.same("and of the longer one", books.likeness(0, 0, 4), 4 * (1000 - 13000 / 14) / 10);
     }
 
     private static void knownInOneBook() {

@@ -6,6 +6,7 @@ public final class TextsTest {
         writing();
         plain();
         calls();
+        longestCall();
         sounds();
         CHECKS.end();
     }
@@ -45,6 +46,17 @@ public final class TextsTest {
             CHECKS.same("form " + form + " of \"" + text + "\"", Checks.form(books, line, form), due);
             CHECKS.same("form 0 of \"" + text + "\"", Checks.form(books, line, 0), text);
         }
+    }
+
+    /** The longest CALL form has 44 bytes. */
+    private static void longestCall() {
+        KindredBooks books = new KindredBooks();
+        books.setCountry(999);
+        String forty = "1234567890123456789012345678901234567890";
+        int line = Checks.line(books, 0, books.entry(0), KindredBooks.WAY, forty);
+        CHECKS.same("the longest CALL form", Checks.form(books, line, 2), "+999" + forty);
+        CHECKS.same("its last byte", books.pageAt(43), '0');
+        CHECKS.throwsA("behind it", Checks.INDEX, () -> books.pageAt(44));
     }
 
     private static void plain() {

@@ -72,11 +72,21 @@ public final class WholesTest {
         String before = Checks.state(books);
         for (int book = 0; book < 3; book++) {
             CHECKS.same("errors", books.errors(book), 0);
-            books.hear(2, 0);
         }
+        CHECKS.same("errors() changes nothing", Checks.state(books), before);
+        books.hear(2, 0);
+        CHECKS.same("errors behind hearing", books.errors(2), 0);
+        for (int i = 20; i > 2; i -= 2) {
+            books.join(1, books.entry(1), books.entry(1));
+        }
+        for (int i = books.changes() - 3; i > 40; i -= 3) {
+            books.join(1, i, i - 2);
+        }
+        CHECKS.isTrue("long groups", books.groups(1) < 9);
+        CHECKS.same("errors of long groups", books.errors(1), 0);
+        books.hear(0, 1);
         books.hear(1, 0);
         CHECKS.same("the digest behind hearing", books.digest(1), books.digest(0));
-        CHECKS.isTrue("errors() changes nothing", before.startsWith("0 " + books.changes()));
         CHECKS.throwsA("errors of no book", Checks.INDEX, () -> books.errors(3));
         CHECKS.throwsA("errors of a book below", Checks.INDEX, () -> books.errors(-1));
     }
