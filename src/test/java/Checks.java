@@ -1,5 +1,5 @@
 import java.nio.charset.StandardCharsets;
-import java.util.NoSuchElementException;
+import java.util.function.IntFunction;
 
 /** What the tests share: a count of wrong answers, texts typed in, and calls that are to throw. */
 final class Checks {
@@ -106,12 +106,17 @@ final class Checks {
 
     /** Fills the books up to 250 changes with entries of the last book. */
     static void fill(KindredBooks books) {
-        while (books.changes() < 250) {
+        fill(books, 250);
+    }
+
+    /** Fills the books up to a number of changes; of the 512 calls of an object each change takes one. */
+    static void fill(KindredBooks books, int most) {
+        for (int i = books.changes(); i < most; i++) {
             books.entry(2);
         }
     }
 
-    /** What all books show, in a row: a call that throws must leave it as it is. */
+    /** What all books show, in a row, and the length of the text, which is emptied. */
     static String state(KindredBooks books) {
         StringBuilder all = new StringBuilder();
         int length = books.clearText();
@@ -119,6 +124,50 @@ final class Checks {
         for (int book = 0; book < 3; book++) {
             all.append(' ').append(books.known(book)).append(' ').append(books.digest(book));
             all.append(' ').append(books.countShare(book)).append(' ').append(books.meanLines(book));
+        }
+        return all.toString();
+    }
+
+    /**
+     * All that can be seen of an object without changing it, in some hundred calls: the length of the text, the
+     * country, what counts and holds of the first changes, what the books show, the page, and the rows of answers.
+     */
+    static String look(KindredBooks books) {
+        StringBuilder all = new StringBuilder();
+        int country = books.setCountry(49);
+        books.setCountry(country);
+        int changes = books.changes();
+        all.append("text ").append(books.type(0)).append(" country ").append(country).append(" changes ").append(changes);
+        for (int book = 0; book < 3; book++) {
+            int at = book;
+            all.append("\nbook ").append(books.known(at)).append(' ').append(books.groups(at)).append(' ');
+            all.append(books.digest(at)).append(' ').append(books.meanLines(at)).append(' ').append(books.countShare(at));
+            for (int change = 0; change < Math.min(changes, 14); change++) {
+                all.append(books.counts(at, change) ? " +" : " -");
+            }
+        }
+        for (int change = 0; change < Math.min(changes, 14); change++) {
+            all.append(books.holds(0, change) ? " holds" : " .");
+        }
+        all.append("\npage").append(row(i -> books.pageAt(i)));
+        for (int i = 0; i < 3; i++) {
+            int what = i;
+            all.append("\nsuggested").append(row(place -> books.suggested(place, what)));
+            all.append("\nyearly").append(row(place -> books.yearlyAt(place, what)));
+        }
+        all.append("\nfound").append(row(i -> books.found(i, true))).append(row(i -> books.found(i, false)));
+        return all.toString();
+    }
+
+    /** What stands at each place of a row, up to the one that is not there. */
+    private static String row(IntFunction<Integer> answers) {
+        StringBuilder all = new StringBuilder();
+        try {
+            for (int i = 0; i < 50; i++) {
+                all.append(' ').append(answers.apply(i));
+            }
+        } catch (IndexOutOfBoundsException e) {
+            all.append(" end");
         }
         return all.toString();
     }

@@ -165,7 +165,7 @@ public final class LikenessTest {
         for (int i = 0; i < 125; i++) {
             for (int j = i + 1; j < 125; j++) {
                 // an object is used for 512 calls at most, so a few places are looked at
-                if (place % 173 == 0) {
+                if (place % 223 == 0) {
                     isSuggested(books, place, 2 * i, 2 * j, 800);
                 }
                 place++;
