@@ -28,6 +28,7 @@ public final class EdgesOfHouseholdsTest {
         tellsOfReturns();
         yearsThatAreFar();
         eachDayOfAYear();
+        returnsOfTheLastGroups();
         CHECKS.end();
     }
 
@@ -382,5 +383,23 @@ public final class EdgesOfHouseholdsTest {
                 day = day.plusDays(1);
             }
         }
+    }
+
+    /** The groups of the last entries that can have a line, with even and odd numbers. */
+    private static void returnsOfTheLastGroups() {
+        KindredBooks books = new KindredBooks();
+        Checks.fill(books, 248);
+        Checks.line(books, 2, 247, KindredBooks.DAY, "1999-12-31");
+        Checks.line(books, 2, 246, KindredBooks.DAY, "2000-01-01");
+        CHECKS.same("in a year", books.yearly(2, 2001, 1, 1, 364), 2);
+        int[] due = {246, 0, 1, 247, 364, 2};
+        for (int i = 0; i < due.length; i++) {
+            CHECKS.same("place " + i / 3 + ", what " + i % 3, books.yearlyAt(i / 3, i % 3), due[i]);
+        }
+        CHECKS.same("in a leap year, by one day less", books.yearly(2, 2004, 1, 1, 364), 1);
+        KindredBooks house = new KindredBooks();
+        Checks.fill(house, 249);
+        house.member(2, 0, 248);
+        CHECKS.same("the last member", house.memberAt(2, 0, 0), 248);
     }
 }

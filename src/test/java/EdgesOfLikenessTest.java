@@ -23,9 +23,12 @@ public final class EdgesOfLikenessTest {
         barIsFourHundredAndOneToThousand();
         suggestsAtTheBar();
         suggestsTheGreatestFirst();
+        suggestsTheLesserFirst();
+        suggestsManyInTheirOrder();
         suggestsPairsOfGroups();
         suggestsNothingThatIsForbidden();
         suggestsNothing();
+        suggestsTheLastGroups();
         suggestionsStay();
         tellsOfSuggestions();
         commonByEachPart();
@@ -77,6 +80,10 @@ public final class EdgesOfLikenessTest {
         parts("111", "122", 334, 0, 0);
         parts("1111111", "1111112", 1000 - 142, 2000 * 2 / 7, 0);
         parts("111111", "111112", 1000 - 166, 2000 * 2 / 7, 0);
+        // 6000 / 7 is 857: 4 * 143 is 572, where 4 * 142 would be 568
+        parts("1234567", "1abcdef", 143, 0, 0);
+        // 4000 / 6 is 666 and T is 333: their sum comes to 2002, which a number rounded otherwise would miss
+        parts("322222", "32", 334, 333, 0);
     }
 
     /** "of two NAMEs with the lengths m and n of their PLAIN forms, which are not empty". */
@@ -140,6 +147,10 @@ public final class EdgesOfLikenessTest {
         parts("123", "12 9", 500, 2000 * 1 / 7, 0);
         parts("123", "1299", 500, 2000 * 1 / 7, 0);
         parts("123", "1239", 750, 2000 * 2 / 7, 0);
+        // 4000 / 6 is 666, and the sum comes to 2668
+        parts("21", "212121", 334, 666, 0);
+        // 4000 / 10 is 400, where those of both would be less of those of either
+        parts("12", "312", 667, 400, 0);
         // one piece of forty and forty, the least that there can be above 0
         String one = "abcdefghijklmnopqrstuvwxyz0123456789aceg";
         String other = "0a1b2c3d4e5f6g7h8i9j0k1l2m3n4o5p6q7r8seg";
@@ -367,6 +378,47 @@ public final class EdgesOfLikenessTest {
         CHECKS.throwsA("behind the last one now", Checks.INDEX, () -> books.suggested(4, 0));
     }
 
+    /** "of like ones the pair whose lesser group has the lesser number", though its other one has a greater number. */
+    private static void suggestsTheLesserFirst() {
+        KindredBooks books = new KindredBooks();
+        for (String name : new String[] {"12", "34", "56", "56", "34", "12"}) {
+            Checks.named(books, 0, name);
+        }
+        CHECKS.same("suggest", books.suggest(0, 401), 3);
+        isSuggested(books, 0, 0, 10, 600);
+        isSuggested(books, 1, 2, 8, 600);
+        isSuggested(books, 2, 4, 6, 600);
+    }
+
+    /** Many pairs of many likenesses: each is told at its place. */
+    private static void suggestsManyInTheirOrder() {
+        KindredBooks books = new KindredBooks();
+        Model model = new Model();
+        for (int i = 0; i < 40; i++) {
+            books.entry(0);
+            model.entry(0);
+            for (char sign : new char[] {'a', 'n', "bd".charAt(i % 2), (char) ('a' + i * i % 7)}) {
+                books.type(sign);
+                model.type(sign);
+            }
+            books.line(0, 2 * i, KindredBooks.NAME);
+            model.line(0, 2 * i, KindredBooks.NAME);
+        }
+        int pairs = books.suggest(0, 401);
+        CHECKS.same("suggest", pairs, model.suggest(0, 401));
+        int before = 1000;
+        for (int i = 0; i < pairs; i++) {
+            if (i < 60 || i > pairs - 10) {
+                for (int what = 0; what < 3; what++) {
+                    CHECKS.same("place " + i + ", what " + what, books.suggested(i, what), model.suggested(i, what));
+                }
+            }
+            CHECKS.isTrue("falling", model.suggested(i, 2) <= before);
+            before = model.suggested(i, 2);
+        }
+        CHECKS.isTrue("of some likenesses: " + pairs + " pairs down to " + before, pairs > 100 && before < 700);
+    }
+
     /** "Finds all pairs of groups": a group comes by its number, whichever of its entries has the lines. */
     private static void suggestsPairsOfGroups() {
         KindredBooks books = new KindredBooks();
@@ -412,6 +464,18 @@ public final class EdgesOfLikenessTest {
         books.entry(0);
         CHECKS.same("of two without a likeness", books.suggest(0, 401), 0);
         CHECKS.throwsA("the first one", Checks.INDEX, () -> books.suggested(0, 0));
+    }
+
+    /** The groups of the last entries that can have a line. */
+    private static void suggestsTheLastGroups() {
+        KindredBooks books = new KindredBooks();
+        Checks.fill(books, 248);
+        Checks.line(books, 2, 247, KindredBooks.NAME, "a");
+        Checks.line(books, 2, 246, KindredBooks.NAME, "a");
+        CHECKS.same("suggest", books.suggest(2, 800), 1);
+        isSuggested(books, 0, 246, 247, 800);
+        CHECKS.same("looked", books.looked(2), 1);
+        CHECKS.same("elsewhere", books.suggest(0, 401), 0);
     }
 
     /** "They stay as they are until the next call of this method that throws no exception." */

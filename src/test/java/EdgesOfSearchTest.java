@@ -27,6 +27,7 @@ public final class EdgesOfSearchTest {
         onlyNamesThatStand();
         groupsByRanksAndNumbers();
         findsOfAllGroups();
+        findsOfTheLastGroups();
         findsStay();
         tellsOfFinds();
         CHECKS.end();
@@ -140,6 +141,8 @@ public final class EdgesOfSearchTest {
         ranks("Ann Lee", BEGINS, "ann", 0);
         ranks("Ann Lee", BEGINS, "lee", 0);
         ranks("Ann Lee", BEGINS, "annl", -1);
+        ranks("Ann Lee", BEGINS, "ann l", -1);
+        ranks("Ann Lee", BEGINS, "ann lee", -1);
         ranks("4711 9", BEGINS, "47", 2);
     }
 
@@ -302,23 +305,46 @@ public final class EdgesOfSearchTest {
         finds(new String[] {"xb", "b", "xxb", "xb"}, PART, "b", 2, 0, 0, 1, 6, 1, 4, 2);
     }
 
-    /** As many groups as 250 changes can name. */
+    /** As many groups as 250 changes can name, with ranks that go up and down. */
     private static void findsOfAllGroups() {
         KindredBooks books = new KindredBooks();
+        int[] ranks = new int[125];
         for (int i = 0; i < 125; i++) {
+            ranks[i] = i * 3 % 8;
             books.entry(0);
-            books.type(i % 2 == 0 ? 'a' : 0x6161);
+            books.type(0x6161616161616161L >>> (8 * (7 - ranks[i])));
             books.line(0, 2 * i, KindredBooks.NAME);
         }
         books.type('a');
         CHECKS.same("all", books.search(0, BEGINS), 125);
-        CHECKS.same("the first", books.found(0, false), 0);
-        CHECKS.same("the last whole one", books.found(62, false), 248);
-        CHECKS.same("its rank", books.found(62, true), 0);
-        CHECKS.same("the first longer one", books.found(63, false), 2);
-        CHECKS.same("its rank", books.found(63, true), 1);
-        CHECKS.same("the last one", books.found(124, false), 246);
+        int place = 0;
+        for (int rank = 0; rank < 8; rank++) {
+            for (int i = 0; i < 125; i++) {
+                if (ranks[i] == rank) {
+                    CHECKS.same("group " + place, books.found(place, false), 2 * i);
+                    place++;
+                }
+            }
+        }
+        CHECKS.same("the first rank", books.found(0, true), 0);
+        CHECKS.same("the last rank", books.found(124, true), 7);
         CHECKS.throwsA("behind it", Checks.INDEX, () -> books.found(125, false));
+    }
+
+    /** The groups of the last entries that can have a line, and the greatest rank. */
+    private static void findsOfTheLastGroups() {
+        KindredBooks books = new KindredBooks();
+        Checks.fill(books, 248);
+        Checks.line(books, 2, 247, KindredBooks.NAME, "a");
+        Checks.line(books, 2, 246, KindredBooks.NAME, "A234567890123456789012345678901234567890");
+        Checks.type(books, "a");
+        CHECKS.same("search", books.search(2, BEGINS), 2);
+        int[] due = {247, 0, 246, 39};
+        for (int i = 0; i < 2; i++) {
+            CHECKS.same("group " + i, books.found(i, false), due[2 * i]);
+            CHECKS.same("rank " + i, books.found(i, true), due[2 * i + 1]);
+        }
+        CHECKS.same("nobody has it in another book", books.search(0, BEGINS), 0);
     }
 
     /** "They stay as they are until the next call of this method that throws no exception." */
