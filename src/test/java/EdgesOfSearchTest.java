@@ -8,6 +8,7 @@ public final class EdgesOfSearchTest {
     public static void main(String[] args) {
         howIsOneOfThree();
         textMustHaveWords();
+        eachByteOfTheText();
         textStays();
         textOfOneToFourHundredBytes();
         beginsWithTheWholeWord();
@@ -87,6 +88,20 @@ public final class EdgesOfSearchTest {
             CHECKS.same("its length stays", books.type(0), text.length());
             books.type('0');
             CHECKS.same("a digit is enough", books.search(0, PART), 0);
+        }
+    }
+
+    /** "rows of letters and digits": each byte that can be typed, alone and between two letters; 127 to 255 are none. */
+    private static void eachByteOfTheText() {
+        for (int sign = 1; sign < 256; sign++) {
+            boolean isOfWord = sign < 127 && Character.isLetterOrDigit(sign);
+            String between = isOfWord ? String.valueOf((char) sign) : " ";
+            KindredBooks books = new KindredBooks();
+            Checks.named(books, 0, "ab a" + between + "b");
+            books.type(sign);
+            String due = isOfWord ? "1" : Checks.STATE;
+            CHECKS.same("byte " + sign + " alone", Checks.outcome(() -> books.search(0, PART)), due);
+            isFound(books, PART, "A" + (char) sign + "B", 0, 3);
         }
     }
 

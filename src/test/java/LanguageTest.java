@@ -1,3 +1,5 @@
+import java.io.PrintWriter;
+import java.io.StringWriter;
 import java.lang.reflect.Field;
 import java.lang.reflect.Method;
 import java.lang.reflect.Modifier;
@@ -7,9 +9,14 @@ import java.nio.file.Path;
 import java.util.ArrayList;
 import java.util.HashSet;
 import java.util.List;
+import java.util.Map;
+import java.util.Optional;
 import java.util.Set;
+import java.util.TreeMap;
+import java.util.TreeSet;
 import java.util.regex.Matcher;
 import java.util.regex.Pattern;
+import java.util.spi.ToolProvider;
 
 /** The rules of LANGUAGE.md, as far as they can be seen from the text and the shape of the class. */
 public final class LanguageTest {
@@ -30,6 +37,7 @@ public final class LanguageTest {
         library(code);
         lengths(code);
         shapes();
+        calls();
         CHECKS.end();
     }
 
@@ -116,5 +124,77 @@ public final class LanguageTest {
             boolean isOwnName = Modifier.isPublic(method.getModifiers()) || !face.contains(method.getName());
             CHECKS.isTrue("rule 1: a name of the face: " + method, isOwnName);
         }
+    }
+
+    /** Rules 4, 8 and 11: what the compiled class calls of the library, no recursion, and calls at most eight deep. */
+    private static void calls() throws Exception {
+        Optional<ToolProvider> javap = ToolProvider.findFirst("javap");
+        if (javap.isEmpty()) {
+            return;
+        }
+        List<String> arguments = new ArrayList<>(List.of("-c", "-p", "-cp"));
+        arguments.add(Path.of(KindredBooks.class.getProtectionDomain().getCodeSource().getLocation().toURI()).toString());
+        arguments.add("KindredBooks");
+        for (Class<?> inside : KindredBooks.class.getDeclaredClasses()) {
+            arguments.add(inside.getName());
+        }
+        StringWriter told = new StringWriter();
+        PrintWriter out = new PrintWriter(told);
+        CHECKS.same("javap", javap.get().run(out, out, arguments.toArray(new String[0])), 0);
+        Map<String, Set<String>> graph = readCalls(told.toString());
+        CHECKS.isTrue("javap tells the methods", graph.size() > 150);
+        int deepest = 0;
+        for (String method : graph.keySet()) {
+            deepest = Math.max(deepest, depth(graph, method, 1));
+        }
+        CHECKS.isTrue("rule 11: calls at most eight deep, here are " + deepest, deepest <= 8);
+    }
+
+    /** For each method those of the class that it calls; overloads count as one. */
+    private static Map<String, Set<String>> readCalls(String told) {
+        Set<String> library = Set.of("Math.max", "Math.min", "Arrays.copyOf", "Arrays.fill", "Object.<init>",
+            "IllegalStateException.<init>", "IllegalArgumentException.<init>", "IndexOutOfBoundsException.<init>",
+            "NoSuchElementException.<init>");
+        Pattern type = Pattern.compile("^(?:\\w+ )*class ([\\w$]+).*");
+        Pattern method = Pattern.compile("^  (?:\\S+ )*?([\\w$]+)\\(.*\\).*;");
+        Pattern call = Pattern.compile(".*: invoke\\w+ .*// (?:Interface)?Method (\\S+):\\(.*");
+        Map<String, Set<String>> graph = new TreeMap<>();
+        String in = "";
+        String from = "";
+        for (String line : told.split("\\R")) {
+            Matcher types = type.matcher(line);
+            Matcher methods = method.matcher(line);
+            Matcher calls = call.matcher(line);
+            if (types.matches()) {
+                in = types.group(1);
+            } else if (methods.matches()) {
+                from = in + "." + (methods.group(1).equals(in) ? "<init>" : methods.group(1));
+                graph.computeIfAbsent(from, k -> new TreeSet<>());
+            } else if (calls.matches()) {
+                String to = calls.group(1).replace("\"", "");
+                if (to.startsWith("java/")) {
+                    CHECKS.isTrue("rule 4: " + from + " calls " + to, library.contains(to.substring(to.lastIndexOf('/') + 1)));
+                } else {
+                    graph.computeIfAbsent(from, k -> new TreeSet<>()).add(to.contains(".") ? to : in + "." + to);
+                }
+            }
+        }
+        return graph;
+    }
+
+    /** How deep calls go from a method on; one that stands open twice goes on without an end. */
+    private static int depth(Map<String, Set<String>> graph, String method, int open) {
+        if (open > 40) {
+            CHECKS.tell("rule 8: recursion through " + method);
+            return open;
+        }
+        int deepest = open;
+        for (String next : graph.getOrDefault(method, Set.of())) {
+            deepest = Math.max(deepest, depth(graph, next, open + 1));
+            if (deepest > 40) {
+                return deepest;
+            }
+        }
+        return deepest;
     }
 }
